@@ -1252,7 +1252,7 @@ public final class ExtraCaste {
         int behind(int corner) {
             int set = 0;
             for (int extra = 0; extra < extras.many; extra++) {
-                if (isAt(extra, corner)) {
+                if (extras.get(extra, LEFT) == 0 && extras.get(extra, AT) == corner) {
                     set |= 1 << extra;
                 }
             }
@@ -1696,9 +1696,8 @@ public final class ExtraCaste {
     private static final class CityReader {
         private final Tokens tokens;
         final City draft = new City();
-        private boolean wageTold;
-        private boolean delayTold;
-        private boolean oddsTold;
+        /** The set of the WORDS wage, delay, odds that are told. */
+        private int rulesTold;
 
         CityReader(Tokens tokens) {
             this.tokens = tokens;
@@ -1706,9 +1705,7 @@ public final class ExtraCaste {
 
         boolean parse(int bytes) {
             draft.clear();
-            wageTold = false;
-            delayTold = false;
-            oddsTold = false;
+            rulesTold = 0;
             tokens.begin(bytes);
             // A PART has two bytes and more, so there are fewer of them than bytes.
             for (int part = 0; part < bytes && tokens.isOpen(); part++) {
@@ -1720,9 +1717,9 @@ public final class ExtraCaste {
 
         private void takePart() {
             switch (tokens.sort == Tokens.WORD ? tokens.value : 0) {
-                case Tokens.WAGE: takeWage(); break;
-                case Tokens.DELAY: takeDelay(); break;
-                case Tokens.ODDS: takeOdds(); break;
+                case Tokens.WAGE: draft.wage = takeRule(Tokens.WAGE, 0, City.MOST_WAGE); break;
+                case Tokens.DELAY: draft.delay = takeRule(Tokens.DELAY, 1, City.MOST_DELAY); break;
+                case Tokens.ODDS: draft.odds = takeRule(Tokens.ODDS, 0, City.MOST_ODDS); break;
                 case Tokens.CORNER: takeCorner(); break;
                 case Tokens.ROAD: takeRoad(); break;
                 case Tokens.EXTRA: takeExtra(); break;
@@ -1733,30 +1730,16 @@ public final class ExtraCaste {
             }
         }
 
-        private int takeRule(boolean isTold, int least, int most) {
-            if (isTold) {
+        private int takeRule(int word, int least, int most) {
+            if ((rulesTold >> word & 1) == 1) {
                 tokens.fail(Tokens.TOLD_TWICE);
                 return least;
             }
+            rulesTold |= 1 << word;
             tokens.advance();
             int much = tokens.takeNumber(least, most);
             tokens.takeEnd();
             return much;
-        }
-
-        private void takeWage() {
-            draft.wage = takeRule(wageTold, 0, City.MOST_WAGE);
-            wageTold = true;
-        }
-
-        private void takeDelay() {
-            draft.delay = takeRule(delayTold, 1, City.MOST_DELAY);
-            delayTold = true;
-        }
-
-        private void takeOdds() {
-            draft.odds = takeRule(oddsTold, 0, City.MOST_ODDS);
-            oddsTold = true;
         }
 
         /** Goes behind a PART's WORD, if there may be one more of what it tells. */
@@ -2025,32 +2008,7 @@ public final class ExtraCaste {
         private int unfinished;
 
         int pass(City city, int first) {
-            seed = first;
-            steps = 0;
-            isOver = false;
-            missed = 0;
-            unfinished = 0;
-            hours = -city.clock;
-            happened = -Integer.bitCount(city.withFate(City.HAPPENED));
-            warned = -city.watchers.sum(City.WARNED);
-            passSteps(city);
-            hours += city.clock;
-            happened += Integer.bitCount(city.withFate(City.HAPPENED));
-            warned += city.watchers.sum(City.WARNED);
-            return steps;
-        }
-
-        int tells(int what) {
-            switch (what) {
-                case 0: return missed;
-                case 1: return hours;
-                case 2: return happened;
-                case 3: return warned;
-                default: return unfinished;
-            }
-        }
-
-        private void passSteps(City city) {
+            begin(city, first);
             int step = 0;
             int depth = 0;
             for (int turn = 0; turn < MOST_TURNS && !isOver; turn++) {
@@ -2080,6 +2038,37 @@ public final class ExtraCaste {
                         step = behind;
                     }
                 }
+            }
+            addTallies(city, 1);
+            return steps;
+        }
+
+        private void begin(City city, int first) {
+            seed = first;
+            steps = 0;
+            isOver = false;
+            missed = 0;
+            unfinished = 0;
+            hours = 0;
+            happened = 0;
+            warned = 0;
+            addTallies(city, -1);
+        }
+
+        /** Taken off at first and added at last, what a CITY has tells what came in between. */
+        private void addTallies(City city, int times) {
+            hours += times * city.clock;
+            happened += times * Integer.bitCount(city.withFate(City.HAPPENED));
+            warned += times * city.watchers.sum(City.WARNED);
+        }
+
+        int tells(int what) {
+            switch (what) {
+                case 0: return missed;
+                case 1: return hours;
+                case 2: return happened;
+                case 3: return warned;
+                default: return unfinished;
             }
         }
 

@@ -49,6 +49,11 @@ public final class AheadTest {
         Check.fine(x, "in 300", x.whereIn(1, 300), 2);
         Check.fine(x, "warned in 300", x.warnedIn(1, 300), 300);
         Check.fine(x, "never warned", x.warnedIn(0, 300), 0);
+        Check.fine(x, "none of the last look", x.standingIn(1, 3), 3);
+        x.whereIn(0, 0);
+        Check.fine(x, "none of the last look", x.wagesIn(1, 3), 4);
+        x.whereIn(0, 0);
+        Check.fine(x, "none of the last look", x.becomes(0), 1);
         Check.due("all stays", x.told(8), 0);
         Check.due("all stays", x.told(13), 0);
         Check.due("all stays", x.told(9), 7);

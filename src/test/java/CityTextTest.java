@@ -71,6 +71,17 @@ public final class CityTextTest {
             + "happening i at p hour 2 great 1;roster e h i;roster f i;roster e;roster f h;roster f h i;");
         Check.due("the latest roster, of none", x.extra(0, 2), 0);
         Check.due("the latest roster", x.extra(1, 2), 3);
+        Check.fine(x, "rules again", Check.city(x, "wage 5;delay 6;odds 7;"), 0);
+        Check.due("wage", x.told(5), 5);
+        Check.due("delay", x.told(6), 6);
+        Check.due("odds", x.told(7), 7);
+        x = Check.cityOf("corner a;corner b;corner aa;corner ab;corner ba;corner z;corner zz;corner az;extra e at ba;"
+            + "extra f at az;extra g at zz;");
+        Check.due("ba", x.extra(0, 0), 4);
+        Check.due("az", x.extra(1, 0), 7);
+        Check.due("zz", x.extra(2, 0), 6);
+        x = Check.cityOf("corner abcdefgh;corner bbcdefgh;corner abcdefgi;");
+        Check.due("three", x.told(0), 3);
         x.hour(3);
         Check.weeks(x, "any;");
         Check.city(x, "corner p;extra e at p;happening h at p hour 1 great 1;watcher w at p fears 1;");

@@ -214,6 +214,8 @@ public final class DeedTest {
         Check.refused(x, "watcher -1", x.scare(-1, 1), 1);
         Check.refused(x, "fears 0", x.scare(0, 0), 1);
         Check.refused(x, "fears 8", x.scare(0, 8), 1);
+        Check.fine(x, "least", x.scare(0, 1));
+        Check.due("fears", x.watcher(0, 1), 1);
         Check.fine(x, "scare", x.scare(0, 7));
         Check.fine(x, "again", x.scare(0, 7));
         Check.due("fears", x.watcher(0, 1), 7);

@@ -106,6 +106,9 @@ public final class LifeTest {
         x = living("loop 99;hour 1;hour 1;hour 1;end;hour 1;hour 1;stop;");
         Check.fine(x, "a STEP left", x.live(0), 300);
         lived(x, 0, 299, 1, 0, 1);
+        Check.weeks(x, "hour 1;");
+        Check.fine(x, "none left", x.live(0), 1);
+        lived(x, 0, 1, 0, 0, 0);
         x = living("loop 99;hour 1;hour 1;hour 1;end;hour 1;stop;hour 1;");
         Check.fine(x, "stop is the last", x.live(0), 300);
         lived(x, 0, 298, 1, 0, 0);
@@ -168,6 +171,10 @@ public final class LifeTest {
         Check.fine(x, "live", x.live(0), 3);
         lived(x, 2, 46, 0, 46, 0);
         Check.due("9,999", x.told(8), 9999);
+        x = Check.cityOf("corner p;corner q;road p q takes 2;extra e at p;happening h at q hour 9 great 1;roster e h;");
+        Check.weeks(x, "hour 1;any;hour 1;any;");
+        Check.fine(x, "an HOUR to go", x.live(0), 4);
+        lived(x, 1, 2, 0, 0, 0);
         x = Check.cityOf("corner p;watcher w at p fears 1;");
         Check.weeks(x, "any;any;");
         Check.fine(x, "without EXTRAS", x.live(0), 2);

@@ -42,6 +42,8 @@ public final class RosterTest {
         Check.fine(x, "and on", x.attends(0, 3), 1);
         Check.fine(x, "the end first, then back", x.attends(0, 4), 1);
         Check.fine(x, "not both", x.attends(0, 6), 0);
+        x.plan(1, 1, 1);
+        Check.fine(x, "at the end ahead of him", x.attends(0, 8), 0);
         x.hour(1);
         x.put(0, 1);
         Check.fine(x, "one to go", x.attends(0, 1), 1);
@@ -72,9 +74,14 @@ public final class RosterTest {
         Check.fine(x, "wages", x.bestWages(0), 15);
         Check.fine(x, "none for b", x.best(1), 0);
         Check.fine(x, "no wages for b", x.bestWages(1), 0);
-        x.raise(0, 3);
+        x.plan(0, 3, 4);
+        Check.fine(x, "wages anew", x.bestWages(0), 35);
+        Check.fine(x, "best anew", x.best(0), 28);
+        x.raise(4, 1);
+        x.put(4, 1);
+        x.raise(0, 4);
         Check.fine(x, "of as good ones the fewer", x.best(0), 1);
-        Check.fine(x, "wages", x.bestWages(0), 15);
+        Check.fine(x, "wages", x.bestWages(0), 20);
         x.rule(5, 0);
         Check.fine(x, "without WAGE", x.best(0), 0);
         Check.fine(x, "without WAGE", x.bestWages(0), 0);
@@ -86,6 +93,9 @@ public final class RosterTest {
         Check.fine(x, "of as few ones the least", x.best(0), 1);
         x.hour(9);
         Check.fine(x, "nothing to come", x.best(0), 0);
+        x = Check.cityOf(MAP + "extra a at q;happening t at q hour 3 great 2;happening u at p hour 5 great 2;");
+        Check.fine(x, "all", x.best(0), 3);
+        Check.fine(x, "all", x.bestWages(0), 4);
     }
 
     private static void findsFewest() {
@@ -104,6 +114,17 @@ public final class RosterTest {
         Check.fine(x, "still", x.fewestSet(), 7);
         x.plan(1, 0, 1);
         Check.fine(x, "all", x.fewest(), 4);
+        ExtraCaste z = Check.cityOf(MAP + "extra a at p;extra b at r;extra c at q;happening t at p hour 1 great 1;"
+            + "happening u at r hour 6 great 1;");
+        z.put(0, 1);
+        Check.fine(z, "a alone: p in HOUR 2, r in HOUR 7 only", z.fewestSet(), 3);
+        z.put(1, 1);
+        Check.fine(z, "fewer", z.fewestSet(), 1);
+        z = Check.cityOf(MAP + "extra a at p;extra b at r;extra c at q;happening t at q hour 0 great 1;"
+            + "happening u at r hour 4 great 1;happening v at p hour 9 great 1;");
+        z.plan(1, 12, 1);
+        Check.fine(z, "one", z.fewest(), 1);
+        Check.fine(z, "not a and b, but c alone", z.fewestSet(), 4);
         ExtraCaste y = Check.cityOf(MAP + "extra a at p;happening t at s hour 3 great 1;");
         Check.refused(y, "not by all", y.fewest(), 6);
         Check.refused(y, "not by all", y.fewestSet(), 6);

@@ -47,6 +47,13 @@ public final class RulerTest {
         // From p to q: c 4; then at q still against b: d 2. Staying at p: b 3, then c 4, as r is too far.
         Check.fine(x, "two turns from p", x.game(0, 2), 6);
         Check.fine(x, "to q", x.moveOf(0, 2), 1);
+        x = Check.cityOf("corner p;corner q;road p q takes 1;happening h at q hour 1 great 2;");
+        Check.fine(x, "to q", x.game(0, 1), 0);
+        Check.fine(x, "to q", x.moveOf(0, 1), 1);
+        Check.fine(x, "to q and stays", x.game(0, 3), 0);
+        x = Check.cityOf("corner p;corner q;happening h at q hour 1 great 2;happening i at q hour 1 great 2;");
+        Check.fine(x, "each once", x.game(0, 3), 4);
+        Check.fine(x, "one a turn", x.game(0, 1), 2);
         x = Check.cityOf("corner p;");
         Check.fine(x, "nothing to come", x.game(0, 3), 0);
     }

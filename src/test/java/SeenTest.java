@@ -28,6 +28,9 @@ public final class SeenTest {
         Check.fine(x, "none of them", x.sure(0), 0);
         fill(x, 0, 1, 5, 0);
         Check.fine(x, "b c", x.sure(0), 6);
+        fill(x, 0, 1, 6, 4);
+        Check.fine(x, "all of them", x.explained(0), 1);
+        Check.fine(x, "all of them", x.sure(0), 15);
         fill(x, 0, 1, 99, 0);
         Check.fine(x, "by no set", x.explained(0), 0);
         Check.refused(x, "by no set", x.sure(0), 6);

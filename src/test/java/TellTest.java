@@ -57,8 +57,11 @@ public final class TellTest {
         told(x, 4, 2, 3, 3, 2, 3, 2, 1, 1, 7, 0, 0, 2, 0);
         Check.due("standing at q", x.standing(1), 1);
         Check.due("nobody at r", x.standing(2), 0);
+        Check.fine(x, "hour", x.hour(1), 0);
+        Check.due("one to go", x.extra(1, 1), 1);
+        Check.due("on a road", x.told(12), 2);
         // b comes in HOUR 2; both have 3 times 2; the watcher of q sees two, z fails one HOUR later.
-        Check.fine(x, "hour", x.hour(2), 1);
+        Check.fine(x, "hour", x.hour(1), 1);
         extra(x, 0, 1, 0, 1, 6, 1);
         extra(x, 1, 1, 0, 3, 6, 1);
         extra(x, 2, 0, 0, 0, 0, 0);

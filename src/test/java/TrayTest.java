@@ -20,10 +20,12 @@ public final class TrayTest {
         Check.fine(x, "last place", x.read(3, 59), 0);
         Check.refused(x, "place 60", x.read(3, 60), 3);
         Check.fine(x, "write", x.write(3, 59, 7));
+        Check.fine(x, "write", x.write(3, 0, 7));
         Check.refused(x, "many 61 again", x.tray(3, 3, 61), 1);
         Check.fine(x, "stays", x.read(3, 59), 7);
         Check.fine(x, "tray anew", x.tray(3, 3, 60));
         Check.fine(x, "0s again", x.read(3, 59), 0);
+        Check.fine(x, "0s again", x.read(3, 0), 0);
         Check.fine(x, "empty tray", x.tray(1, 0, 0));
         Check.refused(x, "no place 0", x.read(1, 0), 3);
     }

@@ -59,6 +59,9 @@ public final class WeeksTextTest {
 
     private static void tellsFaults() {
         fault("any!", 1, 3);
+        ExtraCaste x = Check.cityOf(CITY);
+        Check.weeks(x, "loop 2;loop 3;");
+        Check.fine(x, "behind a fault", Check.weeks(x, "any;"), 1);
         fault("hour 12345;", 1, 5);
         fault("any", 2, 3);
         fault("anyy;", 2, 0);
