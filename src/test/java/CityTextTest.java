@@ -6,7 +6,9 @@ public final class CityTextTest {
     public static void main(String[] args) {
         feeds();
         takesFromTheTape();
+        takesNoMoreThanAsked();
         takesCities();
+        takesAllNames();
         tellsFaultsOfTokens();
         tellsFaultsOfParts();
         tellsOneTooMany();
@@ -53,6 +55,38 @@ public final class CityTextTest {
         Check.refused(x, "the tape is empty", x.city(9), 1);
         Check.fine(x, "city of nothing", x.city(0), 0);
         Check.due("no corners", x.told(0), 0);
+    }
+
+    private static void cutShort(String text, int n, int kind, int place) {
+        ExtraCaste x = new ExtraCaste();
+        Check.feed(x, text);
+        Check.refused(x, n + " of " + text, x.city(n), 9);
+        Check.due("fault of " + n + " of " + text, x.fault(0), kind);
+        Check.due("place in " + n + " of " + text, x.fault(1), place);
+    }
+
+    private static void takesNoMoreThanAsked() {
+        cutShort("wage 12;", 6, 2, 6);
+        cutShort("corner p;wagex", 13, 2, 13);
+        cutShort("corner p;wage", 12, 2, 9);
+        cutShort("corner p;", 8, 2, 8);
+        cutShort("wage 12345;", 9, 4, 5);
+        // The last of 900 bytes is a letter, a digit.
+        cutShort(many(" ", 899) + "a", 900, 2, 899);
+        cutShort(many(" ", 899) + "1", 900, 2, 899);
+        cutShort(many(" ", 894) + "wage 1", 900, 2, 900);
+        ExtraCaste x = new ExtraCaste();
+        Check.feed(x, "wage 5;wage 6;");
+        Check.fine(x, "the first alone", x.city(7), 0);
+        Check.due("wage", x.told(5), 5);
+    }
+
+    private static void takesAllNames() {
+        ExtraCaste x = Check.cityOf(many("corner c#;", 8) + many("extra e# at ca;", 7)
+            + many("happening h# at cb hour 1 great 1;", 8) + many("watcher w# at cc fears 1;", 4));
+        Check.fine(x, "the last of each", Check.weeks(x, "order eg hh;when warned wd<1;end;when stands ea ch;end;"), 3);
+        Check.fine(x, "live", x.live(0), 3);
+        Check.due("roster", x.extra(6, 2), 128);
     }
 
     private static void takesCities() {
@@ -114,6 +148,9 @@ public final class CityTextTest {
         fault("corner happening;", 2, 7);
         fault("corner stop;", 2, 7);
         fault("corner 3;", 2, 7);
+        fault("corner ;", 2, 7);
+        fault(P + "extra at p;", 2, 15);
+        fault(P + "road p ;", 2, 16);
         fault("stop;", 2, 0);
         fault("cornerp;", 2, 0);
         for (String word : Oracle.RESERVED) {

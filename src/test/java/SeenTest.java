@@ -78,6 +78,9 @@ public final class SeenTest {
         fill(x, 0, 0, 1, 8, 0, 1, 9, 1);
         Check.fine(x, "9 by 1", x.laws(0, 2), 1);
         Check.fine(x, "9 by 1", x.lawFirst(0, 2), 91);
+        fill(x, 0, 0, 1, 9, 0, 1, 10, 1);
+        Check.fine(x, "10 by 1 is none", x.laws(0, 2), 0);
+        Check.refused(x, "10 by 1 is none", x.lawFirst(0, 2), 6);
         fill(x, 0, 0, 1, 0, 1);
         Check.fine(x, "nobody is never enough", x.laws(0, 1), 0);
         long[] most = new long[60];

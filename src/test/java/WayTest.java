@@ -44,6 +44,8 @@ public final class WayTest {
         Check.fine(x, "of several the first", x.centre(), 1);
         x = Check.cityOf("corner p;corner q;corner r;road p r takes 1;road q r takes 9;");
         Check.fine(x, "the last", x.centre(), 2);
+        x = Check.cityOf("corner p;corner q;");
+        Check.refused(x, "two without a way", x.centre(), 6);
         x = Check.cityOf("corner p;");
         Check.fine(x, "alone", x.centre(), 0);
         x = new ExtraCaste();
