@@ -1428,8 +1428,8 @@ public final class ExtraCaste {
         // FAULTS.
         static final int NO_TOKEN_BEGINS = 1;
         static final int CANNOT_STAND = 2;
-        static final int WRONG_NAME = 3;
-        static final int WRONG_NUMBER = 4;
+        static final int BAD_NAME = 3;
+        static final int BAD_NUMBER = 4;
         static final int TOLD_TWICE = 5;
         static final int TOO_MANY = 6;
         static final int TOO_DEEP = 7;
@@ -1641,7 +1641,7 @@ public final class ExtraCaste {
                 return least;
             }
             if (value < least || value > most) {
-                fail(WRONG_NUMBER);
+                fail(BAD_NUMBER);
                 return least;
             }
             int number = value;
@@ -1658,7 +1658,7 @@ public final class ExtraCaste {
                 return 0;
             }
             if (names.indexOf(code) != NONE) {
-                fail(WRONG_NAME);
+                fail(BAD_NAME);
                 return 0;
             }
             long name = code;
@@ -1677,7 +1677,7 @@ public final class ExtraCaste {
             }
             int index = names.indexOf(code);
             if (!names.isOfSort(index, wanted)) {
-                fail(WRONG_NAME);
+                fail(BAD_NAME);
                 return 0;
             }
             return names.numberOf(index);
