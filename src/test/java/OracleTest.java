@@ -1,21 +1,20 @@
-import java.lang.reflect.Method;
-import java.util.HashMap;
-import java.util.Map;
+import java.util.Arrays;
 import java.util.Random;
 
-/** Promises 1 to 58 over drawn runs of calls: every answer and STATUS is compared with the oracle's. */
+/**
+ * Promises 1 to 58 over drawn runs of calls: every answer and STATUS is compared with the oracle's. The runs go on behind
+ * the 512th call, which the document leaves free, as the class does not count its calls.
+ */
 public final class OracleTest {
     private static final String[] CALLS = ("tray write write write read pour city weeks weeks told extra happening watcher standing road "
         + "hour hour hour order order put raise plan bear post scare rule far way centre cut goal whereIn standingIn overIn becomes "
         + "wagesIn warnedIn attends best bestWages fewest fewestSet explained sure laws lawFirst guard guardLeft game moveOf falls "
         + "copyStanding live live lived mean mark undo fault").split(" ");
-    private static final Map<String, Method> FACE = new HashMap<>();
 
     private final Random random;
-    private final ExtraCaste caste = new ExtraCaste();
-    private final Oracle oracle = new Oracle();
+    private final Both both = new Both();
+    private final Oracle oracle = both.oracle;
     private final Texts texts;
-    private int calls;
     private final StringBuilder story = new StringBuilder();
 
     private OracleTest(long seed) {
@@ -24,9 +23,6 @@ public final class OracleTest {
     }
 
     public static void main(String[] args) throws Exception {
-        for (Method m : ExtraCaste.class.getDeclaredMethods()) {
-            FACE.put(m.getName(), m);
-        }
         int runs = args.length > 1 ? Integer.parseInt(args[1]) : 400;
         int first = args.length > 2 ? Integer.parseInt(args[2]) : 0;
         for (int run = first; run < first + runs; run++) {
@@ -35,43 +31,9 @@ public final class OracleTest {
         Check.end();
     }
 
-    private long ask(String call, long... p) throws Exception {
-        Method m = FACE.get(call);
-        Class<?>[] types = m.getParameterTypes();
-        Object[] q = new Object[types.length];
-        for (int i = 0; i < q.length; i++) {
-            if (types[i] == int.class) {
-                q[i] = (int) p[i];
-            } else if (types[i] == long.class) {
-                q[i] = p[i];
-            } else {
-                q[i] = p[i] == 1;
-            }
-        }
-        Object got = m.invoke(caste, q);
-        calls++;
-        if (got instanceof Boolean) {
-            return (Boolean) got ? 1 : -1;
-        }
-        return ((Number) got).longValue();
-    }
-
     private boolean both(int run, String call, long... p) throws Exception {
-        long want = oracle.ask(call, p);
-        long got = ask(call, p);
-        story.append(call).append(java.util.Arrays.toString(p)).append(" -> ").append(want).append('\n');
-        Check.due("run " + run + ", call " + calls + ": " + call + java.util.Arrays.toString(p), got, want);
-        if (got != want) {
-            return false;
-        }
-        long status = oracle.ask("status");
-        Check.due("run " + run + ", call " + calls + ": status of " + call + java.util.Arrays.toString(p),
-            caste.status(), status);
-        if (!call.equals("feed")) {
-            Check.due("top", caste.top(), oracle.top);
-            Check.due("bottom", caste.bottom(), oracle.bottom);
-        }
-        return caste.status() == status;
+        story.append(call).append(Arrays.toString(p)).append('\n');
+        return both.call("run " + run, call, p);
     }
 
     private void run(int run) throws Exception {
@@ -107,7 +69,7 @@ public final class OracleTest {
         story.append(text).append('\n');
         int n = random.nextInt(40) == 0 ? text.length() + 20 : text.length();
         same = same && both(run, call, n) && both(run, "fault", 0) && both(run, "fault", 1);
-        if (same && caste.status() == 1) {
+        if (same && both.caste.status() == 1) {
             // What was refused is still on the tape.
             same = both(run, "city", 0);
         }
