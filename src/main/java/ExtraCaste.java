@@ -1252,7 +1252,7 @@ public final class ExtraCaste {
         int behind(int corner) {
             int set = 0;
             for (int extra = 0; extra < extras.many; extra++) {
-                if (extras.get(extra, LEFT) == 0 && extras.get(extra, AT) == corner) {
+                if (isAt(extra, corner)) {
                     set |= 1 << extra;
                 }
             }
@@ -1531,6 +1531,10 @@ public final class ExtraCaste {
             int first = text[next];
             if (isLetter(first)) {
                 takeLetters();
+                value = wordNumber();
+                if (value > 0 || next - place > MOST_NAME_LETTERS) {
+                    code = 0;
+                }
             } else if (isDigit(first)) {
                 takeDigits();
             } else if (first == ';' || first == '<' || first == '>' || first == '=') {
@@ -1552,14 +1556,9 @@ public final class ExtraCaste {
 
         private void takeLetters() {
             sort = WORD;
-            long letters = 0;
             while (next < length && isLetter(text[next])) {
-                letters = letters * 32 + text[next] - 'a' + 1;
+                code = code * 32 + text[next] - 'a' + 1;
                 next++;
-            }
-            value = wordNumber();
-            if (value == 0 && next - place <= MOST_NAME_LETTERS) {
-                code = letters;
             }
         }
 
